@@ -29,8 +29,8 @@ public final class CorpseTales {
     private final int[] order = new int[LONGEST_ORDER];
     private int orderLength = 0;
     private final Night oneNight = new Night();
-    private final Never nevers = new Never(forest);
-    private final Game games = new Game(forest);
+    private final Never nevers = new Never();
+    private final Game games = new Game();
 
     public CorpseTales() {
         for (int k = 0; k < SHEETS; k++) {
@@ -117,11 +117,9 @@ public final class CorpseTales {
         int hindrance = row.faultOfCells(lane, i, n);
         if (hindrance != NO_FAULT) return failing(hindrance);
         if (n > LONGEST_ORDER) return OUTSIDE;
-        for (int q = 0; q < n; q++) {
-            if (forest.taleAt(row.read(i + q)) == null) return UNKNOWN;
-        }
         for (int q = 0; q < n && q < LONGEST_ORDER; q++) {
             order[q] = row.read(i + q);
+            if (forest.taleAt(order[q]) == null) return UNKNOWN;
         }
         orderLength = n;
         return 0;
@@ -140,7 +138,7 @@ public final class CorpseTales {
         if (!isWithin(n, 1, LONGEST_NEVER) || !isWithin(q, -1, LONGEST_NEVER - 1)) return OUTSIDE;
         if (forest.count == 0) return STATE;
         oneNight.begin(forest.steps, known, believed);
-        nevers.seek(oneNight, n);
+        nevers.seek(forest, oneNight, n);
         if (nevers.mostFlights == NONE || q >= n) return NONE;
         return q < 0 ? nevers.mostFlights : nevers.bestRow[q];
     }
@@ -166,7 +164,7 @@ public final class CorpseTales {
         if (!isWithin(n, 1, LONGEST_GAME)) return OUTSIDE;
         if (forest.count == 0) return STATE;
         oneNight.begin(forest.steps, known, believed);
-        return games.farByBestPlay(oneNight, n);
+        return games.farByBestPlay(forest, oneNight, n);
     }
 
     // ---- 4 porters, what was seen
@@ -462,22 +460,18 @@ public final class CorpseTales {
             super(number, firstNeed, secondNeed, teaches, length);
         }
 
-        @Override
         int kind() {
             return KIND_DOUBLE;
         }
 
-        @Override
         boolean isAnswered(int knownFacts, int heardTales) {
             return has(knownFacts, firstNeed) && has(knownFacts, secondNeed);
         }
 
-        @Override
         int oddsUnanswered(int w) {
             return firstNeed == secondNeed ? super.oddsUnanswered(w) : WHOLE_ODDS - w * w;
         }
 
-        @Override
         int telling(Trace trace) {
             trace.leave(2);
             return super.telling(trace) + 100;
@@ -490,23 +484,19 @@ public final class CorpseTales {
             super(number, firstNeed, secondNeed, teaches, length);
         }
 
-        @Override
         int kind() {
             return KIND_OLD;
         }
 
-        @Override
         boolean isAnswered(int knownFacts, int heardTales) {
             return has(heardTales, number) || super.isAnswered(knownFacts, heardTales);
         }
 
-        @Override
         int telling(Trace trace) {
             trace.leave(3);
             return super.telling(trace) + plainTelling(trace);
         }
 
-        @Override
         int whispering(Trace trace) {
             trace.leave(5);
             return 50;
@@ -649,21 +639,16 @@ public final class CorpseTales {
         final int[] bestRow = new int[LONGEST_NEVER];
         private final int[] row = new int[LONGEST_NEVER];
         private final Night[] nights = newNights(LONGEST_NEVER + 1);
-        private final Forest forest;
         private int length = 0;
 
-        Never(Forest forest) {
-            this.forest = forest;
-        }
-
-        void seek(Night start, int n) {
+        void seek(Forest forest, Night start, int n) {
             length = Math.min(Math.max(n, 0), LONGEST_NEVER);
             mostFlights = NONE;
             nights[0].takeUp(start);
-            goOn(0, 0);
+            goOn(forest, 0, 0);
         }
 
-        private void goOn(int depth, int told) {
+        private void goOn(Forest forest, int depth, int told) {
             if (depth < 0 || depth > length) return;
             Night here = nights[depth];
             // Even if it flew at each TALE to come: only more FLIGHTS beat an earlier row.
@@ -680,7 +665,7 @@ public final class CorpseTales {
                 next.hear(forest.taleAt(t), true);
                 if (next.hasCome) continue;
                 row[depth] = t;
-                goOn(depth + 1, told | 1 << t);
+                goOn(forest, depth + 1, told | 1 << t);
             }
         }
     }
@@ -688,43 +673,38 @@ public final class CorpseTales {
     /** The search for GAME: least and most by turns, cut where the other one would not let it come to that. */
     static final class Game {
         private final Night[] nights = newNights(LONGEST_GAME + 1);
-        private final Forest forest;
         private int length = 0;
 
-        Game(Forest forest) {
-            this.forest = forest;
-        }
-
-        int farByBestPlay(Night start, int n) {
+        int farByBestPlay(Forest forest, Night start, int n) {
             length = Math.min(Math.min(Math.max(n, 0), LONGEST_GAME), forest.count);
             nights[0].takeUp(start);
-            return leastFar(0, 0, 0);
+            return leastFar(forest, 0, 0, 0);
         }
 
         /** The corpse's turn; the king has as much as enough elsewhere, so that no less need be sought. */
-        private int leastFar(int depth, int told, int enough) {
+        private int leastFar(Forest forest, int depth, int told, int enough) {
             if (depth < 0 || depth >= length) return nights[length].step;
             int least = forest.steps;
             for (int t = 0; t < forest.count; t++) {
                 if (has(told, t)) continue;
-                least = Math.min(least, mostFar(depth, told, t, least));
+                least = Math.min(least, mostFar(forest, depth, told, t, least));
                 if (least <= enough) return least;
             }
             return least;
         }
 
         /** The king's turn; the corpse has as little as enough elsewhere, so that no more need be sought. */
-        private int mostFar(int depth, int told, int t, int enough) {
+        private int mostFar(Forest forest, int depth, int told, int t, int enough) {
             Tale tale = forest.taleAt(t);
             if (tale == null || depth < 0 || depth >= length) return 0;
             Night next = nights[depth + 1];
             next.takeUp(nights[depth]);
             next.hear(tale, false);
             if (next.hasCome) return next.step;
-            int deaf = leastFar(depth + 1, told | 1 << t, 0);
+            int deaf = leastFar(forest, depth + 1, told | 1 << t, 0);
             if (deaf >= enough || has(next.known, tale.teaches)) return deaf;
             next.learn(tale);
-            return Math.max(deaf, leastFar(depth + 1, told | 1 << t, deaf));
+            return Math.max(deaf, leastFar(forest, depth + 1, told | 1 << t, deaf));
         }
     }
 }

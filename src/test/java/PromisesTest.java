@@ -157,6 +157,7 @@ public final class PromisesTest {
         due("3 tale -1", x.ofTale(-1, 0), UNKNOWN);
         due("3 what 6", x.ofTale(3, 6), OUTSIDE);
         due("3 what -1", x.ofTale(0, -1), OUTSIDE);
+        due("3 an old one, heard ahead of nothing", grown("r4;o3300").ofTale(0, 5), 0);
         due("3 without a forest", new CorpseTales().ofTale(0, 6), UNKNOWN);
     }
 
@@ -207,6 +208,11 @@ public final class PromisesTest {
         dueNight(x, order(0, 0, 3, 1), 4, 0, 2, 4, 1);
         dueNight(x, order(2, 2, 2, 2, 2, 2, 2, 2, 2, 2, 2, 2, 2, 2, 2, 2, 2, 2, 2, 2), 0, 19, 20, 1, 0);
         due("6 he knows ahead what he knew", x.many(2), 0);
+        row(x, 2, 1, 3, 0);
+        due("7 he comes", x.comes(2, 1, 0, 1), 1);
+        due("7 he comes not", x.comes(2, 1, 1, 1), 0);
+        due("7 he comes again", x.comes(2, 1, 0, 1), 1);
+        dueNight(grown("r4;o3300"), order(0), 1, 0, 1, 1, 0);
         x.believe(4, true);
         dueNight(x, order(3), 3, 0, 1, 64, 0);
         dueNight(x, order(3, 0), 4, 0, 2, 68, 1);
@@ -333,6 +339,11 @@ public final class PromisesTest {
         due("10 knows ahead what he knew", x.many(2), 1);
         CorpseTales y = grown("r9;t0112;d2331");
         due("10 all are told", y.game(4), 5);
+        due("10 he would not harken", grown("r4;d1231;o3300").game(2), 3);
+        CorpseTales z = grown("r4;t7770;t6660;t0000");
+        z.believe(6, true);
+        z.know(0, true);
+        due("10 the least is found behind others", z.game(2), 0);
         due("10 outside ahead of state", new CorpseTales().game(5), OUTSIDE);
         due("10 no forest", new CorpseTales().game(4), STATE);
     }
