@@ -322,6 +322,12 @@ public final class PromisesTest {
         due("9 fewest: the later one is enough", z.study(0, 2, 0, 3), 2);
         z.know(7, true);
         due("9 he comes while the last is told", z.study(0, 2, 0, 3), 2);
+        CorpseTales all = grown("r8;t0101;t2321;t4541;t6761");
+        row(all, 0, 2, 0, 1, 2, 3);
+        for (int fact = 0; fact < 7; fact++) all.know(fact, true);
+        due("9 forgets seven", all.study(0, 2, 0, 4), 127);
+        all.know(7, true);
+        due("9 forgets all", all.study(0, 2, 0, 4), 255);
     }
 
     private static void promise10Game() {
