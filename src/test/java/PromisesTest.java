@@ -1,53 +1,5 @@
 /** Each promise by examples that were worked out by hand: ordinary inputs, edges, wrong inputs in the told order. */
-public final class PromisesTest {
-    private static final int MIN = Integer.MIN_VALUE, MAX = Integer.MAX_VALUE;
-    private static final int UNKNOWN = -1, OUTSIDE = -2, STATE = -3, FULL = -4, NONE = -9;
-    private static final int NULL = -11, CAST = -12, INDEX = -13, SIZE = -14;
-    private static final long LOST = Long.MIN_VALUE;
-
-    /** STEPS 4: a short TALE, a DOUBLE one, an OLD one that needs but one FACT, a long TALE. */
-    private static final String WOODS = "r4;t0120;d1231;o3300;t4563";
-
-    private static int wrong = 0;
-    private static int checks = 0;
-
-    private static void due(String what, long got, long want) {
-        checks++;
-        if (got == want) return;
-        wrong++;
-        System.out.println(what + " answered " + got + ", due is " + want);
-    }
-
-    private static void row(CorpseTales x, int k, int lane, int... cells) {
-        x.sheet(k, lane, cells.length);
-        for (int i = 0; i < cells.length; i++) x.put(k, i, cells[i]);
-    }
-
-    private static int take(CorpseTales x, String text) {
-        int[] codes = new int[text.length()];
-        for (int i = 0; i < codes.length; i++) codes[i] = text.charAt(i);
-        row(x, 3, 0, codes);
-        return x.forest(3, 0, 0, codes.length);
-    }
-
-    private static CorpseTales grown(String text) {
-        CorpseTales x = new CorpseTales();
-        due("forest " + text, take(x, text), (text.length() - 2) / 6);
-        return x;
-    }
-
-    /** FAR, FLIGHTS, HEARD, what he KNOWS then, whether he has COME. */
-    private static void dueNight(CorpseTales x, int[] order, int... want) {
-        row(x, 2, 1, order);
-        String name = "night by " + java.util.Arrays.toString(order);
-        for (int what = 0; what < 4; what++) due(name + " what " + what, x.night(2, 1, 0, order.length, what), want[what]);
-        due(name + " comes", x.comes(2, 1, 0, order.length), want[4]);
-    }
-
-    private static int[] order(int... tales) {
-        return tales;
-    }
-
+public final class PromisesTest extends Bench {
     private static void promise1NewObject() {
         CorpseTales x = new CorpseTales();
         for (int what = 0; what < 5; what++) due("1 many", x.many(what), 0);
@@ -656,7 +608,6 @@ public final class PromisesTest {
         promise22As();
         promise24Fault();
         promise25Many();
-        System.out.println(wrong == 0 ? checks + " answers are as due" : wrong + " answers are not as due");
-        if (wrong != 0) System.exit(1);
+        end();
     }
 }
