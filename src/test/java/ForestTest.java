@@ -195,6 +195,7 @@ public final class ForestTest extends Bench {
         CorpseTales x = grown("r9;o0120;o3420;d0120");
         dueNight(x, order(0), 1, 0, 1, 4, 0);
         dueNight(x, order(0, 0), 0, 1, 2, 4, 0);
+        dueNight(x, order(0, 0, 0), 0, 2, 3, 4, 0);
         dueNight(x, order(0, 1), 2, 0, 2, 4, 0);
         dueNight(x, order(0, 1, 1), 0, 1, 3, 4, 0);
         dueNight(x, order(2, 2), 2, 0, 2, 4, 0);
@@ -301,6 +302,15 @@ public final class ForestTest extends Bench {
     }
 
     // ---- promise 3
+
+    @Says(promise = 3, value = "0 kind, 1, 2 what it NEEDS, 3 what it TEACHES, 4 how LONG it is")
+    private static void ofTaleFromLeastToMost() {
+        CorpseTales x = grown("r9;t0000;o7773;d1233");
+        int[][] tales = {{0, 0, 0, 0, 0}, {2, 7, 7, 7, 3}, {1, 1, 2, 3, 3}};
+        for (int t = 0; t < 3; t++) {
+            for (int what = 0; what < 5; what++) due(x, tales[t][what], "ofTale", t, what);
+        }
+    }
 
     @Says(promise = 3, value = "5 whether he KNOWS the answer now, heard ahead of nothing (1, 0).")
     private static void ofTaleKnowsNow() {

@@ -117,7 +117,8 @@ public final class OrdersTest extends Bench {
         dueStudy(x, 0, 1);
         dueStudy(knowing(x, 4), 48, 0);
         dueStudy(knowing(grown("r4;t0003;d7613"), 0, 6, 7), 64, 1);
-        dueStudy(knowing(grown("r3;t0100;t7701"), 0, 1, 7), 128, 0, 0, 1, 1);
+        dueStudy(knowing(grown("r2;t0120;t7721"), 0, 1, 7), 128, 0, 0, 1);
+        dueStudy(knowing(grown("r2;t0120;t7721"), 0, 1), 0, 0, 0, 1);
     }
 
     @Says("so that he COMES by an ORDER: a set of FACTS that are otherwise")
@@ -197,6 +198,7 @@ public final class OrdersTest extends Bench {
         CorpseTales x = believing(grown("r9;t0000;t1112"), 0);
         due(x, 0, "game", 1);
         due(x, 3, "game", 2);
+        due(knowing(believing(grown("r9;t0050;t1112"), 0), 5), 3, "game", 2);
         CorpseTales flies = knowing(grown("r9;t0000;t1110;t2220"), 0);
         due(flies, 0, "game", 1);
         due(flies, 0, "game", 2);

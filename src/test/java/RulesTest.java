@@ -1,14 +1,20 @@
 import java.io.IOException;
 import java.lang.management.ManagementFactory;
+import java.lang.reflect.Constructor;
+import java.lang.reflect.Field;
+import java.lang.reflect.Method;
+import java.lang.reflect.Modifier;
 import java.nio.charset.StandardCharsets;
 import java.nio.file.Files;
 import java.nio.file.Path;
 import java.util.ArrayList;
+import java.util.HashSet;
 import java.util.List;
+import java.util.Set;
 import java.util.regex.Matcher;
 import java.util.regex.Pattern;
 
-/** What of LANGUAGE.md can be seen by a look at the text, and how little room a run of 512 calls takes. */
+/** What of LANGUAGE.md can be seen by a look at the text and at the classes, and how little room a run of 512 calls takes. */
 public final class RulesTest {
     private static final String[] FORBIDDEN = {
         "throw", "throws", "try", "catch", "finally", "synchronized", "assert", "volatile", "native", "protected",
@@ -42,6 +48,40 @@ public final class RulesTest {
         while (match.find()) classes++;
         hold(classes <= 12, "at most twelve classes: " + classes);
         hold(source.chars().allMatch(c -> c == '\n' || c >= 32 && c < 127), "plain signs alone");
+    }
+
+    /** Rules 1, 2, 5, 11, as far as the compiled classes show them. */
+    private static void forms() {
+        Set<String> face = new HashSet<>();
+        for (Method method : CorpseTales.class.getDeclaredMethods()) {
+            if (Modifier.isPublic(method.getModifiers())) face.add(method.getName());
+        }
+        formOf(CorpseTales.class);
+        for (Method method : CorpseTales.class.getDeclaredMethods()) {
+            if (Modifier.isPrivate(method.getModifiers())) hold(!face.contains(method.getName()), "no second " + method);
+        }
+        for (Class<?> inside : CorpseTales.class.getDeclaredClasses()) {
+            int modifiers = inside.getModifiers();
+            hold(Modifier.isStatic(modifiers), inside + " is static");
+            hold(!Modifier.isPublic(modifiers) && !Modifier.isProtected(modifiers), inside + " is not seen outside");
+            formOf(inside);
+        }
+    }
+
+    private static void formOf(Class<?> type) {
+        int fields = 0;
+        for (Field field : type.getDeclaredFields()) {
+            boolean isStatic = Modifier.isStatic(field.getModifiers());
+            hold(!isStatic || Modifier.isFinal(field.getModifiers()), "no static field changes: " + field);
+            if (!isStatic) fields++;
+        }
+        hold(fields <= 20, type + " has at most some twenty fields: " + fields);
+        for (Method method : type.getDeclaredMethods()) {
+            hold(method.getParameterCount() <= 7, "at most seven parameters: " + method);
+        }
+        for (Constructor<?> made : type.getDeclaredConstructors()) {
+            hold(made.getParameterCount() <= 7, "at most seven parameters: " + made);
+        }
     }
 
     private static long bytesOf(Runnable run) {
@@ -85,6 +125,7 @@ public final class RulesTest {
 
     public static void main(String[] args) throws IOException {
         text();
+        forms();
         room();
         System.out.println(wrong == 0 ? "the rules are kept" : wrong + " rules are broken");
         if (wrong != 0) System.exit(1);
