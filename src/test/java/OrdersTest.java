@@ -224,6 +224,9 @@ public final class OrdersTest extends Bench {
     private static void gameLeastAndMost() {
         due(grown("r9;t0003;t1112;t2221;t3330"), 1, "game", 1);
         due(grown("r9;t0003;t1112;t2221;t3330"), 3, "game", 2);
+        int[] woods = {1, 2, 4, 4};
+        for (int n = 1; n <= 4; n++) due(grown(WOODS), woods[n - 1], "game", n);
+        due(believing(grown(WOODS), 3), 1, "game", 2);
         CorpseTales x = knowing(grown("r9;t7701;t1112;t0010"), 0);
         due(x, 0, "game", 1);
         due(x, 0, "game", 2);
