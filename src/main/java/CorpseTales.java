@@ -659,14 +659,18 @@ public final class CorpseTales {
                 return;
             }
             for (int t = 0; t < forest.count; t++) {
-                if (has(told, t)) continue;
-                Night next = nights[depth + 1];
-                next.takeUp(here);
-                next.hear(forest.taleAt(t), true);
-                if (next.hasCome) continue;
-                row[depth] = t;
-                goOn(forest, depth + 1, told | 1 << t);
+                if (!has(told, t)) tellNext(forest, depth, told, t);
             }
+        }
+
+        private void tellNext(Forest forest, int depth, int told, int t) {
+            if (depth < 0 || depth >= length) return;
+            Night next = nights[depth + 1];
+            next.takeUp(nights[depth]);
+            next.hear(forest.taleAt(t), true);
+            if (next.hasCome) return;
+            row[depth] = t;
+            goOn(forest, depth + 1, told | 1 << t);
         }
     }
 
